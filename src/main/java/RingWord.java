@@ -468,12 +468,12 @@ public final class RingWord {
         int found = 0;
         int whole = 0;
         // All are looked at before the first comes: one that is refused must leave the queues as they are.
-        while (whole < n && found == 0) {
-            int at = f + 2 * whole;
+        for (int j = 0; j < n && found == 0; j++) {
+            int at = f + 2 * j;
             found = sheets[k].faultOfPair(lane, at);
             if (found == 0) {
                 if (!ring.takes(cells[at], cells[at + 1])) {
-                    return -20 - whole;
+                    return -20 - j;
                 }
                 whole++;
             }

@@ -32,6 +32,8 @@ public final class BestTest {
         // The second sends 3 if plain, 5 if greedy, 2 if meek or fair: the third has a longer queue.
         RingWord longer = Check.told("plain 2 1 0 1;meek 5 3 0 1;greedy 6 1 0 1;");
         kind(longer, 1, 2, 1, 1 + 5);
+        // A fair first one sends none in its second visit and so 6 in its third: 4, 3, 0, 0, 6, 3; else 15.
+        kind(Check.told("plain 4 6 3 2;meek 3 6 1 6;"), 0, 6, 3, 16);
         RingWord full = Check.told("greedy 99 9 0 9;");
         kind(full, 0, 200, 0, 99);
         kind(full, 0, 6, 1, 99);

@@ -15,8 +15,10 @@ public final class ImageTest {
         Check.due("keep(1)", x.keep(1), 0);
         x.visits(5);
         x.post(1, 99);
-        x.see(1, 2, 3);
-        x.see(2, 0, 4);
+        // Such as will be, so that kinds() and gains() tell one from another.
+        x.see(3, 0, x.ahead(0, 3, 0));
+        x.see(9, 1, x.ahead(1, 9, 0));
+        Check.holds("some gains are left, some are not", x.gains(0) > 0 && x.gains(0) < 1023);
         String then = Check.state(x);
         Check.due("keep(1), in place of that", x.keep(1), 1);
         Check.holds("nothing is changed", then.equals(Check.state(x)));

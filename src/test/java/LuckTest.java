@@ -82,6 +82,8 @@ public final class LuckTest {
         RingWord x = Check.told("plain 9 2 0 1;");
         mean(x, 3, 1, 7, 5);
         mean(x, 3, 2, 14, 5);
+        mean(x, 9, 1, 1, 5);
+        mean(x, 9, 2, 2, 5);
         mean(x, 0, 2, 4, 1);
         mean(x, 10, 2, 0, 1);
         mean(x, 3, 0, 0, 1);

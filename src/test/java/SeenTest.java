@@ -29,6 +29,8 @@ public final class SeenTest {
         Check.due("see, the seventh", x.see(1, 1, 1), -3);
         Check.due("see, the seventh, wrong", x.see(1, 2, 1), -1);
         Check.due("six are seen", x.count(0), 6);
+        Check.due("kinds by six", x.kinds(0), 0);
+        Check.due("gains by six", x.gains(1), 0);
         Check.due("the queue is not changed by it", x.station(0, 1), 20);
     }
 
@@ -172,6 +174,10 @@ public final class SeenTest {
         full.see(1, 0, 99);
         Check.due("those from 4 on", full.gains(0), 1023 - 15);
         ask(full, 0, -4, -4);
+        // Later looks tell more: worked out by Model.
+        ask(Check.told("meek 99 2 6 6;meek 63 6 7 7;"), 0, 13, 8);
+        ask(Check.told("plain 99 4 1 1;fair 57 4 1 4;"), 0, 37, 2);
+        ask(Check.told("fair 51 1 1 8;greedy 94 9 7 4;"), 1, 40, 1);
     }
 
     private static void wrong() {

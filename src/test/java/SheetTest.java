@@ -60,6 +60,11 @@ public final class SheetTest {
         y.sheet(1, 2, 4);
         y.read(1, 2, 0, 1);
         Check.due("a new row is of 0", y.station(0, 1), 0);
+        for (int i = 0; i < 4; i++) {
+            y.lay(1, i, 5);
+        }
+        y.sheet(1, 2, 4);
+        Check.due("all of it", y.read(1, 2, 0, 2), 2);
     }
 
     /** What station and number one pair gives; the answer of read(). */

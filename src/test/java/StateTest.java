@@ -55,6 +55,7 @@ public final class StateTest {
         wouldSend("plain 10 1 0 1;meek 9 4 0 1;word 1;", 3);
         wouldSend("meek 9 4 0 1;plain 8 1 0 1;plain 0 1 0 1;fair 10 1 0 1;", 3);
         wouldSend("meek 9 1 0 1;plain 10 1 0 1;", 0);
+        wouldSend("meek 9 4 0 1;plain 8 1 0 1;plain 0 1 0 1;fair 9 1 0 1;greedy 7 1 0 1;", 4);
         wouldSend("meek 3 4 0 1;plain 10 1 0 1;", 2);
         wouldSend("meek 1 4 0 1;plain 10 1 0 1;", 0);
         wouldSend("meek 0 4 0 1;plain 10 1 0 1;", 0);

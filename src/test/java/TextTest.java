@@ -90,6 +90,7 @@ public final class TextTest {
         x.keep(1);
         x.sheet(0, 0, 3);
         x.give(1);
+        x.runs(50, 0);
         Check.due("text()", Check.tell(x, "plain 3 2 1 1;"), 1);
         int[] rules = {1, 0, 0, 0, 0, 0, 3, 2};
         for (int what = 0; what < rules.length; what++) {
@@ -103,6 +104,8 @@ public final class TextTest {
         Check.due("back(1)", x.back(1), -2);
         Check.due("sheets stay", x.count(3), 3);
         Check.due("the second is gone", x.station(1, 0), -1);
+        Check.tell(x, "meek 3 2 1 1;");
+        Check.due("its queue is gone", x.rule(7), 2);
     }
 
     /** On an object of its own, and on one used before: the answer is of the text alone. */
@@ -144,6 +147,9 @@ public final class TextTest {
         fault("plains 1 1 1 1;", 2, 0);
         fault("plai 1 1 1 1;", 2, 0);
         fault("  wor 1;", 2, 2);
+        fault("xlain 1 1 1 1;", 2, 0);
+        fault("plaix 1 1 1 1;", 2, 0);
+        fault("yord 0;", 2, 0);
         fault("a", 2, 0);
         fault("z;", 2, 0);
         fault("plain 1 1 1 1; x", 2, 15);
