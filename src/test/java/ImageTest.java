@@ -27,7 +27,8 @@ public final class ImageTest {
         x.alter(2, 0, 0);
         x.give(2);
         x.forget(0);
-        x.see(3, 1, 1);
+        x.see(5, 1, 1);
+        x.see(6, 2, 2);
         Check.holds("all is changed", !then.equals(Check.state(x)));
         Check.due("back(1)", x.back(1), 8);
         Check.holds("all is as it was", then.equals(Check.state(x)));
