@@ -2,10 +2,29 @@ import java.nio.charset.StandardCharsets;
 
 /** What the tests share: answers that are due, and rings told by a text. */
 final class Check {
+    private static final long MOST_SECONDS = 120;
     private static int passed = 0;
     private static int failed = 0;
 
+    static {
+        // A call that never comes to an end is a failure too, and must not keep all else from being told.
+        Thread watch = new Thread(Check::giveUp);
+        watch.setDaemon(true);
+        watch.start();
+    }
+
     private Check() {
+    }
+
+    private static void giveUp() {
+        try {
+            Thread.sleep(1000 * MOST_SECONDS);
+        } catch (InterruptedException e) {
+            return;
+        }
+        System.out.println("not at an end behind " + MOST_SECONDS + " seconds: " + passed + " passed, " + failed + " failed");
+        System.out.flush();
+        Runtime.getRuntime().halt(1);
     }
 
     static void due(String what, long got, long want) {

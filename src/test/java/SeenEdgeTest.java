@@ -125,6 +125,9 @@ public final class SeenEdgeTest {
         Run.of("plain 35 4 1 2;greedy 99 2 3 2;").rows("ask(1, 0) ! 40", "ask(1, 1) ! 2");
         Run.of("meek 10 8 6 1;greedy 99 5 7 2;").rows("see(5, 1, 99) = 1", "gains(1) ! 992", "ask(1, 0) ! 40", "ask(1, 1) ! 1");
         Run.of("greedy 99 1 8 1;greedy 49 2 0 6;").rows("ask(0, 0) ! 2").asModel("ask(0, 1)");
+        // At the worst: not by the greatest gain, which other looks tell apart from all others.
+        Run.of("greedy 99 6 1 6;greedy 99 8 3 1;").rows("ask(1, 0) ! 2", "ask(1, 1) ! 2").asModel("ask(1, 0)", "ask(1, 1)");
+        Run.of("greedy 52 2 0 2;plain 92 9 2 5;").rows("ask(1, 0) ! 29", "ask(1, 1) ! 1").asModel("ask(1, 0)", "ask(1, 1)");
     }
 
     private static void askNone() {
@@ -132,6 +135,9 @@ public final class SeenEdgeTest {
         // One is left, none is left; two are left that no look tells apart.
         Run.of("plain 20 3 2 7;").rows("see(1, 0, 19) = 1", "gains(0) ! 4", "ask(0, 0) ! NONE", "ask(0, 1) ! NONE",
                 "see(0, 0, 0) = 2", "gains(0) ! 0", "ask(0, 0) ! NONE", "ask(0, 1) ! NONE");
+        for (int g = 0; g <= 9; g++) {
+            Run.of("plain 20 3 2 7;").rows("see(1, 0, " + (17 + g) + ") = 1", "ask(0, 0) ! NONE", "ask(0, 1) ! NONE");
+        }
         Run.of("plain 99 1 0 9;").rows("see(1, 0, 99) = 1", "gains(0) ! 1022", "ask(0, 0) ! NONE", "ask(0, 1) ! NONE");
         Run.of("plain 96 1 0 9;").rows("see(1, 0, 99) = 1", "gains(0) ! 1008", "ask(0, 0) ! NONE", "ask(0, 1) ! NONE");
         // Told apart behind 41 and not before, found by a search.

@@ -306,7 +306,8 @@ public final class TextEdgeTest {
         String[] texts = {"", ONE, "fair 9 9 9 9;meek 8 8 8 8;", "word 3;" + stations(5)};
         for (String text : texts) {
             int lines = (int) text.chars().filter(c -> c == ';').count();
-            Run run = Run.rich().taken(text, lines).rows("count(0) = 0", "count(1) = 0", "back(0) ! STATE",
+            // What was tried ahead leaves nothing behind either.
+            Run run = Run.rich().rows("runs(200, 0)", "ahead(0, 200, 0)").taken(text, lines).rows("count(0) = 0", "count(1) = 0", "back(0) ! STATE",
                     "back(1) ! STATE", "rule(2) = 0", "rule(3) = 0", "rule(4) = 0", "rule(5) = 0");
             // SHEETS and torn() are of no text: but for them all is as on an object that is told nothing else.
             Run other = Run.fresh().taken(text, lines).rows("sheet(0, 0, 4)", "read(0, 1, 0, 1)");
