@@ -122,8 +122,9 @@ public final class SeenEdgeTest {
         // 98 by none, 99 by any other: nine are left, and fewer by no later look.
         Run.of("plain 99 1 0 9;").rows("ask(0, 0) ! 1", "ask(0, 1) ! 9");
         // The fewest behind 40, found by a search; by the last one behind 41 they would be fewer still.
-        Run.of("plain 35 4 1 2;greedy 99 2 3 2;").rows("ask(1, 0) ! 40", "ask(1, 1) ! 2");
-        Run.of("meek 10 8 6 1;greedy 99 5 7 2;").rows("see(5, 1, 99) = 1", "gains(1) ! 992", "ask(1, 0) ! 40", "ask(1, 1) ! 1");
+        Run.of("plain 35 4 1 2;greedy 99 2 3 2;").rows("ask(1, 0) ! 40", "ask(1, 1) ! 2").asModel("ask(1, 0)", "ask(1, 1)");
+        Run.of("meek 10 8 6 1;greedy 99 5 7 2;").rows("see(5, 1, 99) = 1", "gains(1) ! 992", "ask(1, 0) ! 40", "ask(1, 1) ! 1")
+                .asModel("ask(1, 0)", "ask(1, 1)");
         Run.of("greedy 99 1 8 1;greedy 49 2 0 6;").rows("ask(0, 0) ! 2").asModel("ask(0, 1)");
         // At the worst: not by the greatest gain, which other looks tell apart from all others.
         Run.of("greedy 99 6 1 6;greedy 99 8 3 1;").rows("ask(1, 0) ! 2", "ask(1, 1) ! 2").asModel("ask(1, 0)", "ask(1, 1)");
@@ -142,8 +143,8 @@ public final class SeenEdgeTest {
         Run.of("plain 96 1 0 9;").rows("see(1, 0, 99) = 1", "gains(0) ! 1008", "ask(0, 0) ! NONE", "ask(0, 1) ! NONE");
         // Told apart behind 41 and not before, found by a search.
         Run.of("plain 99 2 1 2;greedy 91 5 3 1;").rows("see(9, 0, 97) = 1", "gains(0) ! 1020", "ask(0, 0) ! NONE",
-                "ask(0, 1) ! NONE");
+                "ask(0, 1) ! NONE").asModel("gains(0)", "ask(0, 0)");
         Run.of("meek 99 1 9 3;plain 99 6 0 3;").rows("see(6, 0, 99) = 1", "gains(0) ! 1022", "ask(0, 0) ! NONE",
-                "ask(0, 1) ! NONE");
+                "ask(0, 1) ! NONE").asModel("gains(0)", "ask(0, 0)");
     }
 }
